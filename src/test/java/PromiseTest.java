@@ -136,6 +136,9 @@ public final class PromiseTest {
         EachEye x = withPage("12");
         x.fault();
         is("count(6) behind it", x.count(6), 2);
+        x.blank();
+        page(x, "7");
+        is("fault() where a longer page was", x.fault(), 1);
     }
 
     private static void sign() {
@@ -620,10 +623,6 @@ public final class PromiseTest {
         is("next() of nobody", x.next(), NONE);
         is("count(8)", x.count(8), 3);
         x.forget();
-        x.card(7, 0);
-        x.card(7, 0);
-        is("next() when each says 0 of all but an old one", x.next(), nextByHand(new int[][] {{7, 0}}));
-        x.forget();
         // all that are left see each hue as it is: each hue leaves all, and 0 is the least of them
         x.card(1, 1);
         x.card(2, 2);
@@ -633,13 +632,23 @@ public final class PromiseTest {
         x.card(6, 6);
         x.card(7, 7);
         is("next() when no hue tells", x.next(), 0);
-        for (int i = 6; i <= 60; i++) {
+        for (int i = 5; i <= 60; i++) {
             is("next()", x.next(), 0);
         }
         is("next(), the 61st", x.next(), STATE);
         is("who(1), the 61st", x.who(1), STATE);
+        for (int hue = 0; hue < 8; hue++) {
+            for (int said = 0; said < 8; said++) {
+                x = new EachEye();
+                x.card(hue, said);
+                is("next() behind one card", x.next(), nextByHand(new int[][] {{hue, said}}));
+                x.card(3, said & 3);
+                is("next() behind two", x.next(), nextByHand(new int[][] {{hue, said}, {3, said & 3}}));
+            }
+        }
     }
 
+    /** By what who() tells behind each card that could come; nobody is left if it is 0 behind all. */
     private static int nextByHand(int[][] cards) {
         int best = NONE;
         int fewest = Integer.MAX_VALUE;
@@ -653,7 +662,7 @@ public final class PromiseTest {
                 y.card(hue, said);
                 worst = Math.max(worst, y.who(0));
             }
-            if (worst < fewest) {
+            if (worst > 0 && worst < fewest) {
                 fewest = worst;
                 best = hue;
             }
@@ -871,5 +880,13 @@ public final class PromiseTest {
         long before = x.digest();
         is("digest() again", x.digest(), before);
         is("few(0)", x.few(0), 1);
+        x = withSign("000000");
+        x.person(PERSON, 7, 7);
+        x.ink(1);
+        x.ink(2);
+        tell(x, 0, "333333");
+        is("digest() with two numbers of few()", x.digest(), folded(0, 0, 0, 0, 0, 0, 2, 3,
+                PERSON, 7, 7, 8, 0, 0, 0, 0, 0, 0, 3, 3, 3, 3, 3, 3, NONE, 8,
+                1, 2, 0, 1, 2, 0, 1, 0, 0, 1, 0));
     }
 }
