@@ -389,7 +389,10 @@ public final class EachEye {
         keptInks = inkCount;
         keptLayers = layersDone;
         for (int i = 0; i < peopleCount; i++) {
-            people[i].keep();
+            Person one = known(i);
+            if (one != null) {
+                one.keep();
+            }
         }
         cards.keep();
         return peopleCount;
@@ -404,7 +407,10 @@ public final class EachEye {
         inkCount = keptInks;
         layersDone = keptLayers;
         for (int i = 0; i < peopleCount; i++) {
-            people[i].goBack();
+            Person one = known(i);
+            if (one != null) {
+                one.goBack();
+            }
         }
         cards.goBack();
         return peopleCount;
@@ -537,7 +543,8 @@ public final class EachEye {
     private int toldPeople() {
         int told = 0;
         for (int i = 0; i < peopleCount; i++) {
-            if (people[i].told != NO_TEXT) {
+            Person one = known(i);
+            if (one != null && one.told != NO_TEXT) {
                 told++;
             }
         }
@@ -579,8 +586,8 @@ public final class EachEye {
 
     private boolean isAsTold(int cell, int hue) {
         for (int i = 0; i < peopleCount; i++) {
-            Person one = people[i];
-            if (one.told != NO_TEXT && one.glimpse(hue) != hueAt(one.told, cell)) {
+            Person one = known(i);
+            if (one != null && one.told != NO_TEXT && one.glimpse(hue) != hueAt(one.told, cell)) {
                 return false;
             }
         }
