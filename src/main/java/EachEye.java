@@ -607,7 +607,7 @@ public final class EachEye {
     // ---- who it can be that said what the cards tell
 
     private Person trial(int kind, int left, int right) {
-        Person one = trials[kind];
+        Person one = trials[isKind(kind) ? kind : PERSON];
         one.left = left;
         one.right = right;
         return one;
@@ -628,7 +628,10 @@ public final class EachEye {
             if (cards.fit(one)) {
                 fitting++;
                 for (int shown = 0; shown < HUES; shown++) {
-                    sayings[HUES * shown + one.glimpse(shown)]++;
+                    int said = one.glimpse(shown);
+                    if (isHue(said)) {
+                        sayings[HUES * shown + said]++;
+                    }
                 }
             }
         }

@@ -34,6 +34,10 @@ final class Due {
         }
     }
 
+    boolean looked() {
+        return checks != 0;
+    }
+
     boolean failed() {
         return wrong != 0;
     }

@@ -6,12 +6,16 @@ import java.util.List;
 import java.util.Map;
 import java.util.Random;
 
-/** Runs of 512 calls by fixed seeds: each answer, and the digest, must be the model's. */
+/** Runs of 512 calls, no more, by fixed seeds: each answer, digests among them, must be the model's. */
 public final class ModelTest {
-    private static final int RUNS = 400;
+    private static final int RUNS = 1200;
     private static final int CALLS = 512;
+    /** blank(), six letters and their use, each with a digest behind it. */
+    private static final int CALLS_OF_SIX_DIGITS = 16;
     private static final int[] ODD = {-1, 8, 9, 60, 61, 63, 64, Integer.MIN_VALUE, Integer.MAX_VALUE};
     private static final Map<String, Method> METHODS = new HashMap<>();
+    /** How many calls the object of this run has had. */
+    private static int used = 0;
 
     public static void main(String[] args) throws IllegalAccessException {
         Due due = new Due("as the model");
@@ -28,25 +32,33 @@ public final class ModelTest {
         Random chance = new Random(run);
         EachEye x = new EachEye();
         Model model = new Model();
-        List<String> calls = Model.calls();
+        used = 0;
         int oddity = run % 4 == 0 ? 4 : 40;
-        for (int i = 1; i <= CALLS && !due.failed(); i++) {
-            if (chance.nextInt(12) == 0) {
-                i += sixDigits(due, x, model, chance);
+        while (used < CALLS && !due.failed()) {
+            if (chance.nextInt(12) == 0 && used + CALLS_OF_SIX_DIGITS <= CALLS) {
+                sixDigits(due, x, model, chance, run);
+                continue;
             }
-            String call = calls.get(chance.nextInt(calls.size()));
-            if (call.equals("sign") && chance.nextInt(3) != 0) {
-                call = "word";
-            }
-            if ((call.equals("who") || call.equals("next")) && chance.nextInt(3) != 0) {
-                call = "person";
-            }
+            String call = someCall(chance, run % 5 == 0);
             int[] arguments = new int[Model.argumentsOf(call)];
             for (int at = 0; at < arguments.length; at++) {
                 arguments[at] = chance.nextInt(oddity) == 0 ? ODD[chance.nextInt(ODD.length)] : usual(call, at, chance);
             }
-            compare(due, x, model, call, arguments, run + "." + i);
+            compare(due, x, model, call, arguments, run, chance);
         }
+    }
+
+    /** Seldom a sign, which takes all else away; who() and next() seldom, or, if they are asked for, often. */
+    private static String someCall(Random chance, boolean asksOften) {
+        List<String> calls = Model.calls();
+        String call = calls.get(chance.nextInt(calls.size()));
+        if (call.equals("sign") && chance.nextInt(3) != 0) {
+            return "word";
+        }
+        if ((call.equals("who") || call.equals("next")) && !asksOften && chance.nextInt(3) != 0) {
+            return "person";
+        }
+        return asksOften && chance.nextInt(8) == 0 ? "next" : call;
     }
 
     /** An argument that is mostly, but not always, such as the call takes. */
@@ -69,25 +81,30 @@ public final class ModelTest {
         };
     }
 
-    private static int sixDigits(Due due, EachEye x, Model model, Random chance) throws IllegalAccessException {
-        compare(due, x, model, "blank", new int[0], "digits");
+    private static void sixDigits(Due due, EachEye x, Model model, Random chance, int run)
+            throws IllegalAccessException {
+        compare(due, x, model, "blank", new int[0], run, chance);
         int most = 1 + chance.nextInt(8);
         for (int i = 0; i < 6; i++) {
-            compare(due, x, model, "letter", new int[] {'0' + chance.nextInt(most)}, "digits");
+            compare(due, x, model, "letter", new int[] {'0' + chance.nextInt(most)}, run, chance);
         }
         String use = chance.nextInt(4) == 0 ? "sign" : "word";
-        compare(due, x, model, use, use.equals("sign") ? new int[0] : new int[] {chance.nextInt(4)}, "digits");
-        return 8;
+        compare(due, x, model, use, use.equals("sign") ? new int[0] : new int[] {chance.nextInt(4)}, run, chance);
     }
 
-    private static void compare(Due due, EachEye x, Model model, String call, int[] arguments, String where)
+    /** The call, and, now and then, and wherever one is left at last, digest() behind it. */
+    private static void compare(Due due, EachEye x, Model model, String call, int[] arguments, int run, Random chance)
             throws IllegalAccessException {
-        String told = where + ": " + call + Arrays.toString(arguments);
+        used++;
+        String told = "run " + run + ", call " + used + ": " + call + Arrays.toString(arguments);
         try {
             Object[] given = Arrays.stream(arguments).boxed().toArray();
             long got = ((Number) METHODS.get(call).invoke(x, given)).longValue();
             due.same(told, got, model.call(call, arguments));
-            due.same("digest() behind " + told, x.digest(), model.call("digest", new int[0]));
+            if (used < CALLS && (chance.nextInt(4) == 0 || used == CALLS - 1)) {
+                used++;
+                due.same("digest() behind " + told, x.digest(), model.call("digest", new int[0]));
+            }
         } catch (InvocationTargetException thrown) {
             due.same(told, thrown.getCause(), "an answer");
         }
