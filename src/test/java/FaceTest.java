@@ -1,12 +1,17 @@
+import java.io.IOException;
 import java.lang.reflect.Constructor;
 import java.lang.reflect.Field;
 import java.lang.reflect.Method;
 import java.lang.reflect.Modifier;
+import java.nio.charset.StandardCharsets;
+import java.nio.file.Files;
+import java.nio.file.Path;
 import java.util.Set;
 import java.util.TreeSet;
 
-/** The class shows the document's face and nothing else. */
+/** The class shows the document's face and nothing else. The source's path is the one argument. */
 public final class FaceTest {
+    private static final Path DOCUMENT = Path.of("../shared/DOC.md");
     private static final String[] FACE = {
         "field int NONE", "field int UNKNOWN", "field int OUTSIDE", "field int STATE", "field int FULL",
         "new 0",
@@ -17,7 +22,7 @@ public final class FaceTest {
         "int image 0", "int restore 0", "int count 1", "long digest 0",
     };
 
-    public static void main(String[] args) {
+    public static void main(String[] args) throws IOException {
         Due due = new Due("the face");
         Set<String> asked = new TreeSet<>(Set.of(FACE));
         due.same("members that are not private", shown(), asked);
@@ -33,7 +38,26 @@ public final class FaceTest {
         due.same("OUTSIDE", EachEye.OUTSIDE, -102);
         due.same("STATE", EachEye.STATE, -103);
         due.same("FULL", EachEye.FULL, -104);
+        lookAtLines(due, Path.of(args.length > 0 ? args[0] : "src/main/java/EachEye.java"));
         due.end();
+    }
+
+    /** The lines of the document's code block stand in the source, in their order, names and all. */
+    private static void lookAtLines(Due due, Path path) throws IOException {
+        if (!Files.exists(DOCUMENT)) {
+            System.out.println("the document is not here: the lines of its face are not looked at");
+            return;
+        }
+        String document = Files.readString(DOCUMENT, StandardCharsets.UTF_8);
+        String block = document.substring(document.indexOf("## The public face"), document.indexOf("## Terms"));
+        String source = Files.readString(path, StandardCharsets.UTF_8);
+        int from = 0;
+        for (String line : block.lines().filter(line -> line.strip().startsWith("public ")).toList()) {
+            int at = source.indexOf(line.endsWith(");") ? line.replace(");", ") {") : line, from);
+            due.yes("the source has, in its place, the line " + line, at >= 0);
+            from = Math.max(from, at);
+        }
+        due.yes("the document shows a face", from > 0);
     }
 
     private static Set<String> shown() {
